@@ -132,8 +132,11 @@ public final class LandingSlots {
         }
         int from = flights.slot[flight];
         int to = flights.slot[other];
-        if (!canGo(flight, to) || !canGo(other, from)) {
-            throw new IllegalStateException("they cannot change places");
+        if (from == NONE || to == NONE) {
+            throw new IllegalStateException("one of them is in no slot");
+        }
+        if (!couldMove(flight, to) || !couldMove(other, from)) {
+            throw new IllegalStateException("one of them is airborne or cannot use the other's slot");
         }
         putIn(to, flight);
         putIn(from, other);
@@ -345,11 +348,8 @@ public final class LandingSlots {
         entries.add(kind, flight, minute, NONE);
     }
 
-    private boolean canGo(int flight, int minuteOrNone) {
-        return flights.slot[flight] != NONE
-            && !flights.airborne[flight]
-            && minuteOrNone != NONE
-            && flights.canUse(flight, minuteOrNone);
+    private boolean couldMove(int flight, int minute) {
+        return !flights.airborne[flight] && flights.canUse(flight, minute);
     }
 
     private boolean isGood(int offer) {
@@ -409,10 +409,6 @@ public final class LandingSlots {
         slots.owner[one] = slots.owner[other];
         putIn(other, flight);
         slots.owner[other] = owner;
-    }
-
-    private boolean couldMove(int flight, int minute) {
-        return !flights.airborne[flight] && flights.canUse(flight, minute);
     }
 
     private int flightsThatCouldMoveTo(int minute) {

@@ -15,6 +15,7 @@ public final class CompressionTest {
         airborneFlightsStay();
         flightsInNoSlotStay();
         gapsAreCounted();
+        fullDesk();
         check.finish();
     }
 
@@ -193,5 +194,27 @@ public final class CompressionTest {
         check.same("flight 1 is airborne", x.gaps(), 3);
         check.same("gaps changes nothing", x.gaps(), 3);
         check.same("logged", x.log(), 2);
+    }
+
+    /** All slots there can be, and all flights. */
+    private static void fullDesk() {
+        LandingSlots x = new LandingSlots();
+        for (int quarter = 0; quarter < 16; quarter++) {
+            x.rate(quarter, 8);
+        }
+        check.same("slots", x.owned(NONE), 128);
+        for (int i = 0; i < 60; i++) {
+            x.flight(i % 8, i, Math.max(0, i - 15));
+        }
+        check.same("all in", x.ration(), 0);
+        check.same("the last flight", x.slotOf(59), 110);
+        check.same("no gaps", x.gaps(), 0);
+        x.cancel(0);
+        check.same("those that can use 0", x.gaps(), 15);
+        int before = x.delay(NONE);
+        check.yes("moved", x.compress() > 0);
+        check.yes("earlier in all", x.delay(NONE) < before);
+        check.same("no gaps left", x.gaps(), 0);
+        check.same("owners", x.owned(NONE), 68);
     }
 }

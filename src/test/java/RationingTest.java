@@ -9,6 +9,7 @@ public final class RationingTest {
         rateOfEachQuarter();
         rateArguments();
         rateRations();
+        rateTakesSlotOfFirstFlight();
         rateOfOneQuarterLeavesOthers();
         rateKeepsFrozenSlots();
         flightNumbersAndBounds();
@@ -123,9 +124,24 @@ public final class RationingTest {
         check.slot("rationed anew", x, 10, NONE, NONE);
         check.same("a cancelled flight is not counted", x.rate(0, 1), 1);
         check.same("it lost its slot", x.slotOf(2), NONE);
+        check.same("none is left", x.rate(0, 0), 2);
+        check.same("no slots at all", x.slotOf(1), NONE);
+        check.same("one again", x.rate(0, 1), 1);
         check.same("owners of lost slots are gone", x.owned(2), 0);
         x.airborne(1);
         check.same("an airborne flight is not counted", x.rate(1, 0), 1);
+    }
+
+    private static void rateTakesSlotOfFirstFlight() {
+        LandingSlots x = new LandingSlots();
+        x.rate(0, 1);
+        x.flight(0, 0, 0);
+        x.ration();
+        check.same("in", x.slotOf(0), 0);
+        check.same("out", x.rate(0, 0), 1);
+        check.same("out", x.slotOf(0), NONE);
+        check.same("no delay", x.delay(NONE), 0);
+        check.badState("not to be airborne", () -> x.airborne(0));
     }
 
     private static void rateOfOneQuarterLeavesOthers() {

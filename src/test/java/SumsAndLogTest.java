@@ -5,6 +5,7 @@ public final class SumsAndLogTest {
 
     public static void main(String[] args) {
         delays();
+        delaysOfSixtyFlights();
         delayArguments();
         ownedCounts();
         ownedArguments();
@@ -36,6 +37,19 @@ public final class SumsAndLogTest {
         x.airborne(1);
         check.same("an airborne one counts", x.delay(1), 3);
         check.same("all", x.delay(NONE), 2);
+    }
+
+    private static void delaysOfSixtyFlights() {
+        LandingSlots x = new LandingSlots();
+        for (int quarter = 0; quarter < 16; quarter++) {
+            x.rate(quarter, 5);
+        }
+        for (int i = 0; i < 60; i++) {
+            x.flight(i % 2, 3 * i, 3 * i + 3);
+        }
+        x.ration();
+        check.same("all three minutes late", x.delay(NONE), 180);
+        check.same("half of them", x.delay(1), 90);
     }
 
     private static void delayArguments() {

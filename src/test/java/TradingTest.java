@@ -17,6 +17,7 @@ public final class TradingTest {
         tradeOfFrozenSlots();
         tradeWithLostSlots();
         tradeGoesByNumbersOnce();
+        tradeOfFortyOffers();
         offersOutliveRationing();
         check.finish();
     }
@@ -68,6 +69,7 @@ public final class TradingTest {
             check.same("number", x.offer(0, 0, 5), i);
         }
         check.badState("a 41st", () -> x.offer(0, 0, 5));
+        check.same("forty good ones, and none to trade with", x.trade(), 0);
         check.yes("the last one is there", x.drop(39));
         check.badState("a dropped one makes no room", () -> x.offer(0, 0, 5));
         check.badArgument("argument first", () -> x.offer(0, 5, 5));
@@ -251,6 +253,20 @@ public final class TradingTest {
         z.offer(1, 5, 0);
         check.same("an empty slot with an owner is not free", z.trade(), 0);
         check.slot("not traded", z, 5, 1, 1);
+    }
+
+    private static void tradeOfFortyOffers() {
+        LandingSlots x = threeIn();
+        for (int i = 0; i < 39; i++) {
+            x.offer(0, 0, 5);
+        }
+        check.same("none to trade with", x.trade(), 0);
+        check.same("the last there can be", x.offer(1, 5, 0), 39);
+        check.same("the first with the last", x.trade(), 2);
+        check.no("the first", x.drop(0));
+        check.yes("the second", x.drop(1));
+        check.no("the last", x.drop(39));
+        check.same("nobody else gives 5", x.trade(), 0);
     }
 
     private static void offersOutliveRationing() {
