@@ -2,13 +2,18 @@ import java.util.TreeMap;
 import java.util.function.LongSupplier;
 
 /**
- * All promises: long runs of calls, drawn by a fixed rule, on the class and on PlainDesk, which
- * must answer alike. After every call that may change something the whole state is compared too;
- * these looks change nothing and are not counted among a run's 512 calls.
+ * All promises: runs of 512 calls, drawn by a fixed rule, on the class and on PlainDesk, which must
+ * answer alike. Runs differ in how many looks at the desk follow each call that may change it: many
+ * looks find a fault early, few leave more calls to fill the tables with.
  */
 public final class ComparisonTest {
-    private static final int RUNS = 100;
+    private static final int RUNS = 3000;
     private static final int CALLS = 512;
+    private static final int LAST_LOOKS = 40;
+    private static final int[] EDGES = {
+        Integer.MIN_VALUE, -2, -1, 0, 1, 3, 4, 5, 7, 8, 9, 15, 16, 39, 40, 59, 60, 199, 200,
+        223, 224, 225, 238, 239, 240, 300, 301, Integer.MAX_VALUE
+    };
     private static final Checks check = new Checks();
 
     private final LandingSlots x = new LandingSlots();
@@ -16,6 +21,7 @@ public final class ComparisonTest {
     private final TreeMap<String, Integer> tally;
     private final int run;
     private long seed;
+    private int calls = 0;
     private String call = "";
 
     private ComparisonTest(int run, TreeMap<String, Integer> tally) {
@@ -37,9 +43,15 @@ public final class ComparisonTest {
 
     private void go() {
         prepare();
-        for (int i = 0; i < CALLS - 40; i++) {
+        int looks = run % 7;
+        while (calls < CALLS - LAST_LOOKS) {
             oneCall();
-            compareState();
+            for (int i = 0; i < looks; i++) {
+                look();
+            }
+        }
+        while (calls < CALLS) {
+            look();
         }
     }
 
@@ -52,14 +64,15 @@ public final class ComparisonTest {
             int n = upTo(8);
             both("rate", () -> x.rate(quarter, n), () -> plain.rate(quarter, n));
         }
-        for (int i = 0; i < 20; i++) {
+        int flights = run % 6 == 5 ? 60 : 20;
+        for (int i = 0; i < flights; i++) {
             addFlight();
         }
         both("ration", x::ration, plain::ration);
     }
 
     private void oneCall() {
-        switch (upTo(run % 4 == 0 ? 24 : 20)) {
+        switch (upTo(run % 4 == 0 ? 25 : 21)) {
             case 0 -> rate();
             case 1 -> addFlight();
             case 2 -> rationSometimes();
@@ -72,6 +85,7 @@ public final class ComparisonTest {
             case 15, 16 -> both("trade", x::trade, plain::trade);
             case 17 -> both("compress", x::compress, plain::compress);
             case 18 -> wrongNames();
+            case 19 -> edges();
             default -> swap();
         }
     }
@@ -144,45 +158,66 @@ public final class ComparisonTest {
     private void wrongNames() {
         int any = upTo(4) == 0 ? (int) next() : upTo(70) - 5;
         int other = upTo(4) == 0 ? (int) next() : upTo(10) - 3;
+        lookAt(any, other);
+        both("rate", () -> x.rate(any, other), () -> plain.rate(any, other));
+        both("swap", () -> { x.swap(any, other); return 0; }, () -> { plain.swap(any, other); return 0; });
+    }
+
+    /** One call with numbers at the document's bounds, or just beyond them. */
+    private void edges() {
+        int a = edge();
+        int b = edge();
+        int c = edge();
+        switch (upTo(8)) {
+            case 0 -> both("rate", () -> x.rate(a, b), () -> plain.rate(a, b));
+            case 1 -> both("flight", () -> x.flight(a, b, c), () -> plain.flight(a, b, c));
+            case 2 -> both("later", () -> x.later(a, b) ? 1 : 0, () -> plain.later(a, b) ? 1 : 0);
+            case 3 -> both("cancel", () -> x.cancel(a) ? 1 : 0, () -> plain.cancel(a) ? 1 : 0);
+            case 4 -> both("airborne", () -> { x.airborne(a); return 0; }, () -> { plain.airborne(a); return 0; });
+            case 5 -> both("offer", () -> x.offer(a, b, c), () -> plain.offer(a, b, c));
+            case 6 -> both("drop", () -> x.drop(a) ? 1 : 0, () -> plain.drop(a) ? 1 : 0);
+            default -> lookAt(a, b);
+        }
+    }
+
+    private int edge() {
+        return EDGES[upTo(EDGES.length)];
+    }
+
+    private void lookAt(int any, int other) {
         both("slotOf", () -> x.slotOf(any), () -> plain.slotOf(any));
         both("ownerOf", () -> x.ownerOf(any), () -> plain.ownerOf(any));
         both("flightIn", () -> x.flightIn(any), () -> plain.flightIn(any));
         both("delay", () -> x.delay(other), () -> plain.delay(other));
         both("owned", () -> x.owned(other), () -> plain.owned(other));
         both("entry", () -> x.entry(any, other), () -> plain.entry(any, other));
-        both("rate", () -> x.rate(any, other), () -> plain.rate(any, other));
-        both("swap", () -> { x.swap(any, other); return 0; }, () -> { plain.swap(any, other); return 0; });
     }
 
-    private void compareState() {
-        for (int flight = 0; flight <= 60; flight++) {
-            int f = flight;
-            both("slotOf", () -> x.slotOf(f), () -> plain.slotOf(f));
-        }
-        for (int minute = 0; minute < 100; minute++) {
-            int m = minute;
-            both("ownerOf", () -> x.ownerOf(m), () -> plain.ownerOf(m));
-            both("flightIn", () -> x.flightIn(m), () -> plain.flightIn(m));
-        }
-        for (int airline = -1; airline < 8; airline++) {
-            int a = airline;
-            both("delay", () -> x.delay(a), () -> plain.delay(a));
-            both("owned", () -> x.owned(a), () -> plain.owned(a));
-        }
-        both("gaps", x::gaps, plain::gaps);
-        both("log", x::log, plain::log);
-        for (int i = Math.max(0, plain.log() - 60); i < plain.log(); i++) {
-            for (int what = 0; what < 4; what++) {
-                int e = i;
-                int w = what;
-                both("entry", () -> x.entry(e, w), () -> plain.entry(e, w));
-            }
+    private void look() {
+        int flight = upTo(3) == 0 ? upTo(61) : someFlight();
+        int minute = upTo(3) == 0 ? upTo(240) : someSlot();
+        int airline = upTo(9) - 1;
+        int i = upTo(2) == 0 ? plain.log() - 1 : upTo(plain.log() + 1);
+        int what = upTo(4);
+        switch (upTo(9)) {
+            case 0, 1 -> both("slotOf", () -> x.slotOf(flight), () -> plain.slotOf(flight));
+            case 2 -> both("ownerOf", () -> x.ownerOf(minute), () -> plain.ownerOf(minute));
+            case 3 -> both("flightIn", () -> x.flightIn(minute), () -> plain.flightIn(minute));
+            case 4 -> both("delay", () -> x.delay(airline), () -> plain.delay(airline));
+            case 5 -> both("owned", () -> x.owned(airline), () -> plain.owned(airline));
+            case 6 -> both("gaps", x::gaps, plain::gaps);
+            case 7 -> both("log", x::log, plain::log);
+            default -> both("entry", () -> x.entry(i, what), () -> plain.entry(i, what));
         }
     }
 
     private void both(String name, LongSupplier ours, LongSupplier due) {
-        String got = answer(ours);
-        String wanted = answer(due);
+        if (calls == CALLS) {
+            return;
+        }
+        calls++;
+        String got = Looks.answer(ours);
+        String wanted = Looks.answer(due);
         tally.merge(name + (wanted.startsWith("throws") ? " " + wanted : wanted.equals("0") ? " 0" : " other"), 1, Integer::sum);
         if (changes(name)) {
             call = name;
@@ -197,21 +232,13 @@ public final class ComparisonTest {
         return "rate flight ration later cancel airborne swap offer drop trade compress".contains(name);
     }
 
-    private static String answer(LongSupplier asked) {
-        try {
-            return Long.toString(asked.getAsLong());
-        } catch (RuntimeException e) {
-            return "throws " + e.getClass().getSimpleName();
-        }
-    }
-
     private int someFlight() {
         return upTo(30) == 0 ? upTo(64) - 2 : upTo(24);
     }
 
     private int someSlot() {
         int minute = upTo(75);
-        while (minute < 75 && answer(slotAt(minute)).startsWith("throws") && upTo(12) != 0) {
+        while (minute < 75 && Looks.answer(slotAt(minute)).startsWith("throws") && upTo(12) != 0) {
             minute++;
         }
         return minute;
@@ -222,7 +249,7 @@ public final class ComparisonTest {
     }
 
     private int ownerOr(int minute, int other) {
-        String owner = answer(slotAt(minute));
+        String owner = Looks.answer(slotAt(minute));
         return owner.startsWith("throws") || upTo(10) == 0 ? other : Integer.parseInt(owner);
     }
 

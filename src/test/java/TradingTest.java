@@ -22,20 +22,8 @@ public final class TradingTest {
         check.finish();
     }
 
-    /** Slots 0, 5, 10 of airlines 0, 1, 2 with flights of these numbers; 15, 20, 25 without owner. */
-    private static LandingSlots threeIn() {
-        LandingSlots x = new LandingSlots();
-        x.rate(0, 3);
-        x.rate(1, 3);
-        x.flight(0, 0, 0);
-        x.flight(1, 1, 0);
-        x.flight(2, 2, 0);
-        x.ration();
-        return x;
-    }
-
     private static void offerNumbers() {
-        LandingSlots x = threeIn();
+        LandingSlots x = Desks.threeIn();
         check.same("first", x.offer(0, 0, 5), 0);
         check.same("the same once more", x.offer(0, 0, 5), 1);
         check.same("for a slot without owner", x.offer(2, 10, 25), 2);
@@ -48,7 +36,7 @@ public final class TradingTest {
     }
 
     private static void offerRefused() {
-        LandingSlots x = threeIn();
+        LandingSlots x = Desks.threeIn();
         check.badArgument("airline -1", () -> x.offer(-1, 15, 0));
         check.badArgument("airline 8", () -> x.offer(8, 0, 5));
         check.badArgument("the same slot", () -> x.offer(0, 0, 0));
@@ -64,7 +52,7 @@ public final class TradingTest {
     }
 
     private static void fortyOffers() {
-        LandingSlots x = threeIn();
+        LandingSlots x = Desks.threeIn();
         for (int i = 0; i < 40; i++) {
             check.same("number", x.offer(0, 0, 5), i);
         }
@@ -78,7 +66,7 @@ public final class TradingTest {
     }
 
     private static void drop() {
-        LandingSlots x = threeIn();
+        LandingSlots x = Desks.threeIn();
         check.badArgument("none yet", () -> x.drop(0));
         x.offer(0, 0, 15);
         x.offer(1, 5, 20);
@@ -93,7 +81,7 @@ public final class TradingTest {
     }
 
     private static void tradeForSlotWithoutOwner() {
-        LandingSlots x = threeIn();
+        LandingSlots x = Desks.threeIn();
         x.offer(0, 0, 20);
         check.same("one", x.trade(), 1);
         check.slot("given", x, 0, NONE, NONE);
@@ -104,7 +92,7 @@ public final class TradingTest {
     }
 
     private static void tradeOfEmptySlot() {
-        LandingSlots x = threeIn();
+        LandingSlots x = Desks.threeIn();
         x.cancel(0);
         x.offer(0, 0, 20);
         check.same("one", x.trade(), 1);
@@ -121,7 +109,7 @@ public final class TradingTest {
     }
 
     private static void tradeBetweenAirlines() {
-        LandingSlots x = threeIn();
+        LandingSlots x = Desks.threeIn();
         x.offer(2, 10, 0);
         check.same("alone", x.trade(), 0);
         x.offer(0, 0, 10);
@@ -137,7 +125,7 @@ public final class TradingTest {
     }
 
     private static void tradeTakesFirstPartner() {
-        LandingSlots x = threeIn();
+        LandingSlots x = Desks.threeIn();
         x.offer(1, 5, 0);
         x.offer(1, 5, 10);
         x.offer(0, 0, 10);
@@ -147,7 +135,7 @@ public final class TradingTest {
         check.yes("gives what it wants, but wants another", x.drop(2));
         check.no("the first partner", x.drop(3));
         check.yes("the second one still stands", x.drop(4));
-        LandingSlots y = threeIn();
+        LandingSlots y = Desks.threeIn();
         y.offer(1, 5, 0);
         y.offer(0, 0, 5);
         y.offer(0, 0, 5);
@@ -170,7 +158,7 @@ public final class TradingTest {
     }
 
     private static void tradeNeedsGoodOffers() {
-        LandingSlots x = threeIn();
+        LandingSlots x = Desks.threeIn();
         x.later(1, 3);
         x.offer(1, 5, 0);
         x.offer(0, 0, 5);
@@ -180,7 +168,7 @@ public final class TradingTest {
         check.same("its slot is empty, so anything can be used", x.slotOf(0), NONE);
         check.same("and 15 has no owner", x.trade(), 1);
         check.slot("given empty", x, 15, 0, NONE);
-        LandingSlots y = threeIn();
+        LandingSlots y = Desks.threeIn();
         y.later(1, 3);
         y.offer(0, 0, 5);
         y.offer(1, 5, 0);
@@ -189,7 +177,7 @@ public final class TradingTest {
         check.same("an empty give is good", y.trade(), 2);
         check.slot("exchanged", y, 0, 1, NONE);
         check.slot("exchanged", y, 5, 0, 0);
-        LandingSlots z = threeIn();
+        LandingSlots z = Desks.threeIn();
         z.offer(0, 0, 15);
         z.offer(0, 0, 20);
         check.same("what it does not own any more it cannot give", z.trade(), 1);
@@ -198,7 +186,7 @@ public final class TradingTest {
     }
 
     private static void tradeOfFrozenSlots() {
-        LandingSlots x = threeIn();
+        LandingSlots x = Desks.threeIn();
         x.airborne(0);
         x.offer(0, 0, 15);
         check.same("give is frozen", x.trade(), 0);
@@ -206,7 +194,7 @@ public final class TradingTest {
         x.offer(1, 5, 0);
         check.same("give and want are frozen", x.trade(), 0);
         check.slot("nothing exchanged", x, 0, 0, 0);
-        LandingSlots y = threeIn();
+        LandingSlots y = Desks.threeIn();
         y.airborne(0);
         y.offer(1, 5, 0);
         y.offer(0, 0, 5);
@@ -215,7 +203,7 @@ public final class TradingTest {
     }
 
     private static void tradeWithLostSlots() {
-        LandingSlots x = threeIn();
+        LandingSlots x = Desks.threeIn();
         x.offer(0, 0, 20);
         x.offer(1, 5, 15);
         x.rate(1, 1);
@@ -225,7 +213,7 @@ public final class TradingTest {
         x.rate(1, 3);
         check.same("20 is a slot again", x.trade(), 1);
         check.slot("traded", x, 20, 0, 0);
-        LandingSlots y = threeIn();
+        LandingSlots y = Desks.threeIn();
         y.offer(1, 5, 15);
         y.rate(0, 1);
         check.same("5 is no slot any more", y.trade(), 0);
@@ -233,7 +221,7 @@ public final class TradingTest {
     }
 
     private static void tradeGoesByNumbersOnce() {
-        LandingSlots x = threeIn();
+        LandingSlots x = Desks.threeIn();
         x.offer(1, 5, 0);
         x.offer(0, 0, 15);
         check.same("0 has an owner when the first one is looked at", x.trade(), 1);
@@ -241,14 +229,14 @@ public final class TradingTest {
         check.same("the next trading finds it free", x.trade(), 1);
         check.slot("then", x, 0, 1, 1);
         check.slot("then", x, 5, NONE, NONE);
-        LandingSlots y = threeIn();
+        LandingSlots y = Desks.threeIn();
         y.offer(0, 0, 15);
         y.offer(1, 5, 0);
         check.same("a greater number finds it free at once", y.trade(), 2);
         check.slot("at once", y, 0, 1, 1);
         check.entry("in order", y, 0, LandingSlots.TRADED, 0, 0, 15);
         check.entry("in order", y, 1, LandingSlots.TRADED, 1, 5, 0);
-        LandingSlots z = threeIn();
+        LandingSlots z = Desks.threeIn();
         z.cancel(0);
         z.offer(1, 5, 0);
         check.same("an empty slot with an owner is not free", z.trade(), 0);
@@ -256,7 +244,7 @@ public final class TradingTest {
     }
 
     private static void tradeOfFortyOffers() {
-        LandingSlots x = threeIn();
+        LandingSlots x = Desks.threeIn();
         for (int i = 0; i < 39; i++) {
             x.offer(0, 0, 5);
         }
@@ -270,7 +258,7 @@ public final class TradingTest {
     }
 
     private static void offersOutliveRationing() {
-        LandingSlots x = threeIn();
+        LandingSlots x = Desks.threeIn();
         x.offer(0, 0, 15);
         x.ration();
         check.same("it still stands", x.trade(), 1);
