@@ -15,6 +15,7 @@ public final class EdgesTest {
         emptyDesk();
         firstAndLastQuarter();
         everyFrozenSlotAtEveryRate();
+        onlyFrozenSlotsKeepARate();
         oneOfSeveralFrozenSlots();
         rateAtWhichAllWait();
         earliestBoundsOfEveryMinute();
@@ -136,6 +137,32 @@ public final class EdgesTest {
             check.same(what + ": slots", x.owned(NONE), n - 1);
         }
         check.slot(what, x, minute, 3, 0);
+    }
+
+    /** Promise 2: a slot whose flight is not airborne may go, at every rate. */
+    private static void onlyFrozenSlotsKeepARate() {
+        for (int quarter : new int[] {0, 8, 15}) {
+            for (int offset : OFFSETS[8]) {
+                for (int next = 0; next <= 8; next++) {
+                    takenAt(15 * quarter + offset, quarter, next);
+                }
+            }
+        }
+    }
+
+    private static void takenAt(int minute, int quarter, int next) {
+        LandingSlots x = new LandingSlots();
+        x.flight(3, minute, minute);
+        x.rate(quarter, 8);
+        String what = "taken " + minute + " at rate " + next;
+        check.slot(what, x, minute, 3, 0);
+        int waiting = minute > 15 * quarter + lastOf(OFFSETS[next]) ? 1 : 0;
+        check.same(what, x.rate(quarter, next), waiting);
+        check.same(what + ": slots", x.owned(NONE), next - 1 + waiting);
+    }
+
+    private static int lastOf(int[] offsets) {
+        return offsets.length == 0 ? NONE : offsets[offsets.length - 1];
     }
 
     /** Promise 2: one frozen slot that would go is enough, be it the first or the last one. */
